@@ -682,7 +682,8 @@ public final class WakeBanks {
                     open--;
                 }
             }
-            return most + open;
+            // one round always fits: less than 1 is open for each that has something left
+            return most;
         }
 
         private void work(Vessel vessel) {
@@ -866,10 +867,12 @@ public final class WakeBanks {
                 return 0;
             }
             if (goesOn(wind)) {
-                row[count - 1] = wind;
-            } else {
-                add(wind);
+                count--;
+            } else if (count >= MOST_EXTREMES) {
+                takeOut(0, 1);
             }
+            row[count] = wind;
+            count++;
             int more = 0;
             // each CYCLE makes the row shorter, so there are fewer than the row has places
             for (int i = 0; i < MOST_EXTREMES && hasCycle(); i++) {
@@ -888,14 +891,6 @@ public final class WakeBanks {
             }
             int last = row[count - 1];
             return last > row[count - 2] ? wind > last : wind < last;
-        }
-
-        private void add(int wind) {
-            if (count >= MOST_EXTREMES) {
-                takeOut(0, 1);
-            }
-            row[count] = wind;
-            count++;
         }
 
         private boolean hasCycle() {

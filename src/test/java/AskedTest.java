@@ -144,7 +144,10 @@ public final class AskedTest {
             // the second is right behind the first, the third 2 aside (q, -p: ACROSS above 0)
             WakeBanks sea = row(10 * 20 + 10, (10 + p) * 20 + 10 + q,
                     (10 + p + 2 * q) * 20 + 10 + q - 2 * p);
+            sea.turbine(10 + q, 10 - p, 0);
             sea.blow(1, sector, 10, 0, 0, 20000);
+            CHECK.same("ALONG 0, SECTOR " + sector, sea.wake(3, 0), 0);
+            CHECK.same("ALONG 0, SECTOR " + sector, sea.wake(0, 3), 0);
             CHECK.same("behind, SECTOR " + sector, sea.wake(1, 0), 42 - 3 * straight);
             CHECK.same("ahead, SECTOR " + sector, sea.wake(0, 1), 0);
             CHECK.same("aside, SECTOR " + sector, sea.wake(2, 0), 0);

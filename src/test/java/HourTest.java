@@ -139,6 +139,17 @@ public final class HourTest {
         CHECK.same("BLADES are the CAUSE", blades.ofTurbine(0, 7), 2);
         hour(blades, 10);
         CHECK.same("FAULTED for good", blades.ofTurbine(0, 0), 3);
+        WakeBanks exact = one();
+        exact.turn(0, 2);
+        blowLong(exact, 99, 10);
+        exact.turn(0, 1);
+        hour(exact, 10);
+        CHECK.same("BLADES", exact.wear(0, 2), 199);
+        hour(exact, 10);
+        CHECK.same("it RUNS", exact.ofTurbine(0, 0), 2);
+        CHECK.same("BLADES", exact.wear(0, 2), 200);
+        hour(exact, 10);
+        CHECK.same("BLADES at the LIMIT", exact.ofTurbine(0, 7), 2);
     }
 
     private static void causeIsTheSmallestPart() {
@@ -174,6 +185,10 @@ public final class HourTest {
         hour(sea, 10);
         CHECK.same("STATES as they are then", sea.lost(1, 0), 1568 + 784);
         CHECK.same("POTENTIAL", sea.many(7), 8000);
+        WakeBanks near = one();
+        near.turbine(10, 9, 0);
+        hour(near, 18);
+        CHECK.same("18 times 61 hundredths, cut", near.ofTurbine(1, 2), 10);
     }
 
     private static void lossOfStates() {
@@ -274,6 +289,11 @@ public final class HourTest {
         CHECK.same("ORDER 0", sea.blow(1, 2, 20, 0, 0, 0), 0);
         CHECK.same("all is lost", sea.lost(0, 7), 251 + 732 - 1);
         CHECK.same("all is lost", sea.lost(1, 7), 250 + 732);
+        WakeBanks last = two(9999);
+        CHECK.same("ORDER 1", last.blow(1, 2, 10, 0, 0, 1), 1);
+        CHECK.same("the last 1 is given up, too", last.ofTurbine(0, 3), 0);
+        CHECK.same("1 is left", last.ofTurbine(1, 3), 1);
+        CHECK.same("through", last.ofString(0, 3), 2000);
         WakeBanks over = two(9999);
         over.string(9999);
         over.turbine(19, 10, 1);

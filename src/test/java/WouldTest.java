@@ -65,6 +65,33 @@ public final class WouldTest {
         still.call(0, false);
         still.call(0, true);
         CHECK.same("STARTING RUNS", still.wouldDeliver(2), 2000);
+        wouldBeAsItComes();
+    }
+
+    /** Worn ones with TURNS, many EXTREMES and WAKES: what would be is what then comes. */
+    private static void wouldBeAsItComes() {
+        int faulted = 0;
+        for (int i = 0; i < 60; i++) {
+            WakeBanks sea = row(1800, 10 * 20 + 10, 10 * 20 + 7);
+            sea.string(2500);
+            sea.turbine(12, 8, 1);
+            sea.turn(0, i % 5 - 2);
+            sea.turn(1, i % 3 - 1);
+            for (int hour = 0; hour < 20 + i; hour++) {
+                sea.blow(1, i % 4 == 0 ? 0 : 4, speedOf(hour), 0, 9, 20000);
+            }
+            int hours = 1 + i % 24;
+            int would = sea.wouldDeliver(hours);
+            int before = sea.many(5);
+            CHECK.same("as it comes, " + i, would,
+                    sea.blow(hours, i % 4 == 0 ? 0 : 4, speedOf(19 + i), 0, 9, 20000));
+            faulted += sea.many(5) - before;
+        }
+        CHECK.that("some were FAULTED in these HOURS", faulted > 10);
+    }
+
+    private static int speedOf(int hour) {
+        return hour % 2 == 0 ? 5 + hour % 13 : 24 - hour % 9;
     }
 
     private static void promise24() {
@@ -133,9 +160,20 @@ public final class WouldTest {
             {0}, {210}, {0, 19, 380, 399}, {105, 110, 115, 205, 210, 215, 305},
             {190, 191, 192, 209, 211, 229, 230}, {42, 84, 126, 168, 210, 252, 294},
             {7, 133, 277, 391}, {399, 398, 379}, {205, 214, 85, 325, 210, 5},
+            // in these the SPEED, the WAKES among those that are there and each SECTOR count
+            {309, 300, 317, 94, 199, 11, 162}, {43, 219, 295, 341, 125, 141, 31},
+            {207, 142, 209, 58, 352, 280}, {217, 196, 1, 58, 132, 269, 366},
         };
         for (int i = 0; i < seas.length; i++) {
-            CHECK.same("sea " + i, row(9999, seas[i]).bestPlace(), tried(seas[i]));
+            WakeBanks sea = new WakeBanks();
+            sea.string(9999);
+            for (int place : seas[i]) {
+                sea.bestPlace();
+                sea.turbine(place / 20, place % 20, 0);
+            }
+            int due = tried(seas[i]);
+            CHECK.same("sea " + i, sea.bestPlace(), due);
+            CHECK.same("sea " + i + " again", sea.bestPlace(), due);
         }
     }
 
@@ -181,6 +219,10 @@ public final class WouldTest {
         sea.blow(2, 0, 17, 55, 44, 3000);
         CHECK.same("digest", sea.digest(), sum(sea));
         CHECK.same("again", sea.digest(), sum(sea));
+        WakeBanks turned = row(9999, 10 * 20 + 10, 11 * 20 + 6);
+        turned.blow(1, 0, 10, 0, 0, 20000);
+        CHECK.same("bestTurn is in it", turned.bestTurn(0), 2);
+        CHECK.same("digest", turned.digest(), sum(turned));
     }
 
     private static long sum(WakeBanks sea) {
