@@ -265,6 +265,8 @@ public final class EdgeDoneTest {
                 () -> sea.sail(0, 0), () -> sea.sail(1, 1), () -> sea.sail(2, 0));
         sea.sail(1, -1);
         CHECK.same("it left", sea.sail(0, 0), -1);
+        CHECK.refused(sea, IllegalStateException.class, () -> sea.sail(1, 0),
+                () -> sea.sail(2, 0));
     }
 
     /** Promise 10: in PORT there may be several; "Returns where it was (NONE for PORT)". */

@@ -53,7 +53,8 @@ public final class EdgeWakesTest {
         for (int[] row : alongWidthDeficit) {
             for (int sector = 0; sector < 8; sector++) {
                 for (int across = -8; across <= 8; across++) {
-                    WakeBanks sea = row[0] == 0 && across == 0 ? null : pair(sector, row[0], across);
+                    boolean isSame = row[0] == 0 && across == 0;
+                    WakeBanks sea = isSame ? null : pair(sector, row[0], across);
                     for (int turn = -2; sea != null && turn <= 2; turn++) {
                         sea.turn(0, turn);
                         boolean is = across - turn >= -row[1] && across - turn <= row[1];
@@ -198,13 +199,25 @@ public final class EdgeWakesTest {
         int[][] alongSpeedWind = {
             {1, 0, 0}, {1, 1, 0}, {12, 1, 0}, {12, 2, 1}, {1, 10, 6}, {12, 10, 9}, {12, 25, 23},
             {1, 30, 18}, {12, 30, 28}, {4, 10, 7}, {13, 30, 30}, {13, 1, 1}, {13, 0, 0},
+            // 793, 1098, 896, 1292 and 1598 hundredths, just below the next one
+            {1, 13, 7}, {1, 18, 10}, {2, 14, 8}, {6, 17, 12}, {12, 17, 15},
         };
         for (int[] row : alongSpeedWind) {
-            WakeBanks sea = behind(row[0]);
-            Seas.startAgain(sea, 1);
-            sea.blow(1, 0, row[1], 0, 0, 20000);
-            CHECK.same("ALONG " + row[0] + " SPEED " + row[1], sea.ofTurbine(0, 2), row[2]);
-            CHECK.same("of the first one", sea.ofTurbine(1, 2), row[1]);
+            windAt(row[0], row[1], row[2]);
         }
+        for (int along = 1; along <= 12; along++) {
+            for (int speed = 0; speed <= 30; speed++) {
+                int hundredths = speed * (58 + 3 * along);
+                windAt(along, speed, (hundredths - hundredths % 100) / 100);
+            }
+        }
+    }
+
+    private static void windAt(int along, int speed, int due) {
+        WakeBanks sea = behind(along);
+        Seas.startAgain(sea, 1);
+        sea.blow(1, 0, speed, 0, 0, 20000);
+        CHECK.same("ALONG " + along + " SPEED " + speed, sea.ofTurbine(0, 2), due);
+        CHECK.same("of the first one", sea.ofTurbine(1, 2), speed);
     }
 }

@@ -14,6 +14,8 @@ public final class EdgeWouldTest {
         wouldWithoutAnHour();
         wouldWithItsPriceAndOrder();
         wouldPassTheLimits();
+        wouldWithItsStrings();
+        wouldWithItsExtremes();
         bestTurnOfNoTurbine();
         bestTurnWithoutAnHour();
         smallestWithoutItsSign();
@@ -27,6 +29,7 @@ public final class EdgeWouldTest {
         placeWithoutState();
         placeWithoutAString();
         placeAtTheEdgeOfAWake();
+        placeInACrowd();
         digestOfNothing();
         digestWrapsAround();
         digestOfEachRow();
@@ -103,6 +106,43 @@ public final class EdgeWouldTest {
         nominated.wouldDeliver(24);
         CHECK.same("it is to come still", nominated.many(10), 1);
         CHECK.same("MONEY", nominated.many(9), 0);
+    }
+
+    /** Promise 23: each TURBINE is on its STRING then, too. */
+    private static void wouldWithItsStrings() {
+        CHECK.part("promise 23: STRINGS");
+        WakeBanks sea = Seas.at(9999);
+        sea.string(100);
+        sea.turbine(0, 0, 1);
+        sea.turbine(0, 2, 0);
+        Seas.hour(sea, 10);
+        CHECK.same("HEAT 25 is a LIMIT of 98", sea.wouldDeliver(1), 1000 + 98);
+        sea.turn(0, 2);
+        CHECK.same("also of what is TURNED", sea.wouldDeliver(1), 1000 + 98);
+    }
+
+    /** Promise 23: a WIND that changes in these HOURS is put to the row of EXTREMES. */
+    private static void wouldWithItsExtremes() {
+        CHECK.part("promise 23: EXTREMES");
+        WakeBanks sea = Seas.at(9999, 10, 10, 10, 9);
+        sea.call(0, false);
+        sea.turn(1, 2);
+        Seas.hours(sea, 97, 10);
+        sea.turn(1, 0);
+        int[] speeds = {25, 16, 24};
+        for (int speed : speeds) {
+            sea.blow(1, 0, speed, 0, 0, 20000);
+        }
+        CHECK.same("EXTREMES", sea.ofTurbine(1, 6), 4);
+        CHECK.same("BLADES", sea.wear(1, 2), 194);
+        sea.call(0, true);
+        // in the WAKE the WIND is 14: 16 and 24 are a CYCLE, its DAMAGE of 6 wears BLADES out
+        CHECK.same("3", sea.wouldDeliver(3), 8000);
+        CHECK.same("2", sea.wouldDeliver(2), 6000);
+        CHECK.same("1", sea.wouldDeliver(1), 4000);
+        CHECK.same("nothing is changed", sea.ofTurbine(1, 6), 4);
+        CHECK.same("as it comes", sea.blow(3, 0, 24, 0, 0, 20000), 8000);
+        CHECK.same("CAUSE", sea.ofTurbine(1, 7), 2);
     }
 
     /** Promise 24: "if there is no such TURBINE". */
@@ -311,6 +351,56 @@ public final class EdgeWouldTest {
             }
         }
         return -1;
+    }
+
+    /** Promise 25: "of all together", "of several the smallest number", among 7 with WAKES. */
+    private static void placeInACrowd() {
+        CHECK.part("promise 25: of all together");
+        int[][] seas = {
+            {15, 9, 15, 0, 15, 17, 4, 14, 9, 19, 0, 11, 8, 2},
+            {2, 3, 10, 19, 14, 15, 17, 1, 6, 5, 7, 1, 1, 11},
+            {10, 7, 7, 2, 10, 9, 17, 12, 2, 18, 14, 0},
+            {10, 17, 9, 16, 0, 1, 2, 18, 6, 12, 13, 9, 18, 6},
+            {12, 16, 11, 6, 7, 15, 3, 7, 8, 3, 7, 12, 3, 9},
+        };
+        for (int[] xy : seas) {
+            int best = -1;
+            int most = -1;
+            for (int place = 0; place < 400; place++) {
+                int made = isIn(xy, place) ? -1 : madeWith(xy, place);
+                if (made > most) {
+                    most = made;
+                    best = place;
+                }
+            }
+            WakeBanks sea = Seas.at(9999);
+            for (int i = 0; i < xy.length; i += 2) {
+                sea.bestPlace();
+                sea.turbine(xy[i], xy[i + 1], 0);
+            }
+            CHECK.same("place", sea.bestPlace(), best);
+            CHECK.same("place, asked once more", sea.bestPlace(), best);
+        }
+    }
+
+    private static boolean isIn(int[] xy, int place) {
+        for (int i = 0; i < xy.length; i += 2) {
+            if (20 * xy[i] + xy[i + 1] == place) {
+                return true;
+            }
+        }
+        return false;
+    }
+
+    private static int madeWith(int[] xy, int place) {
+        WakeBanks sea = Seas.at(9999, xy);
+        sea.string(9999);
+        sea.turbine(place / 20, place % 20, 1);
+        int made = 0;
+        for (int sector = 0; sector < 8; sector++) {
+            made += sea.blow(1, sector, 10, 0, 0, 20000);
+        }
+        return made;
     }
 
     private static long digestOf(long... numbers) {
